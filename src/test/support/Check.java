@@ -68,18 +68,20 @@ final class Check {
     /** The whole file, byte by byte. */
     static String fileOf(RevisionWrite x) {
         StringBuilder text = new StringBuilder();
-        for (int i = 0; i < x.told(0); i++) {
+        int size = x.told(0);
+        for (int i = 0; i < size; i++) {
             text.append((char) (x.at(i) & 255));
         }
         return text.toString();
     }
 
     static String objectOf(RevisionWrite x, int n) {
-        if (x.length(n) == RevisionWrite.NONE) {
+        int length = x.length(n);
+        if (length == RevisionWrite.NONE) {
             return "none";
         }
         StringBuilder text = new StringBuilder();
-        for (int i = 0; i < x.length(n); i++) {
+        for (int i = 0; i < length; i++) {
             text.append((char) (x.byteOf(n, i) & 255));
         }
         return text.toString();
@@ -96,15 +98,13 @@ final class Check {
         }
     }
 
-    /** An object of the class whose file has been poked to be this text: a file of its size, of zeros, comes first. */
+    /** An object of the class whose file has been poked to be this text. */
     static RevisionWrite holding(String text) {
-        byte[] all = bytes(text);
-        RevisionWrite x = ofSize(all.length);
-        for (int i = 0; i < all.length; i++) {
-            if (x.at(i) != all[i]) {
-                x.poke(i, all[i]);
-            }
+        RevisionWrite x = written(text.length());
+        if (x == null) {
+            x = takenOut(text.length());
         }
+        pokeAll(x, 0, text);
         return x;
     }
 
@@ -115,25 +115,38 @@ final class Check {
         }
     }
 
-    private static RevisionWrite ofSize(int size) {
-        for (int others = 0; others < 8; others++) {
-            for (int a = 0; a <= 120; a++) {
-                for (int b = 0; b <= 120; b += 40) {
-                    RevisionWrite x = new RevisionWrite();
-                    for (int k = 0; k < others; k++) {
-                        x.object(3 + k, b);
-                    }
-                    if (x.write(0) == size) {
-                        return x;
-                    }
+    /** An object whose file was written with so many bytes, or null where no file has just these. */
+    private static RevisionWrite written(int size) {
+        for (int a = -1; a <= 120; a++) {
+            for (int b = -1; b <= 120; b += 11) {
+                RevisionWrite x = new RevisionWrite();
+                if (a >= 0) {
                     x.object(1, a);
-                    if (x.write(0) == size) {
-                        return x;
-                    }
+                }
+                if (b >= 0) {
                     x.object(2, b);
-                    if (x.write(0) == size) {
-                        return x;
-                    }
+                }
+                if (x.write(0) == size) {
+                    return x;
+                }
+            }
+        }
+        return null;
+    }
+
+    /** A file so small is no writing's: it is taken out of a poked one as its first revision. */
+    private static RevisionWrite takenOut(int size) {
+        for (int rows = 0; rows < 2; rows++) {
+            for (int filled = 0; filled < size; filled++) {
+                int place = 4 + filled;
+                String first = "%F1\n" + ".".repeat(filled) + (rows == 0 ? "x 0\n" : "x 1\n7 -\n") + "p 0\ne " + place + "\n";
+                if (first.length() == size) {
+                    String filler = first + ".".repeat(100 - size);
+                    RevisionWrite x = holding(filler + "x 0\np " + place + "\ne 100\n");
+                    due("two parts of a test's own", x.read(), 2);
+                    due("the first of them taken out", x.take(0), 1);
+                    due("its bytes", x.told(0), size);
+                    return x;
                 }
             }
         }

@@ -1,0 +1,298 @@
+/** READ: each thing that may be wrong, its place, and which of two comes first. Files are poked byte by byte. */
+public final class FaultTest {
+    private static final int GOOD = -2;
+
+    public static void main(String[] args) {
+        goodOnes();
+        firstAndLastByte();
+        lastLine();
+        numbers();
+        xLine();
+        rows();
+        pLine();
+        eLine();
+        records();
+        partsBefore();
+        orderInOnePart();
+        placesInsideLines();
+        tooManyParts();
+        Check.end();
+    }
+
+    /** The file is this text; its FAULT is at a place (GOOD: none, and one revision). */
+    private static void fault(String why, String file, int place) {
+        RevisionWrite x = Check.holding(file);
+        int want = place == GOOD ? 1 : -1 - place;
+        Check.due(why + " " + Check.shown(file), x.read(), want);
+        Check.due(why + ": altered", x.told(4), place == GOOD ? 0 : 1);
+    }
+
+    private static void goodOnes() {
+        fault("no objects", "%F1\nx 0\np 0\ne 4\n", GOOD);
+        fault("bytes that are told nowhere", "%F1\nno part\nx 0\np 0\ne 12\n", GOOD);
+        fault("one object", "%F1\no 7 2\n\n\n\nx 1\n7 4\np 0\ne 13\n", GOOD);
+        fault("one that is gone", "%F1\nx 1\n7 -\np 0\ne 4\n", GOOD);
+        fault("records backwards", "%F1\no 2 1\nb\no 1 0\n\nx 2\n1 12\n2 4\np 0\ne 19\n", GOOD);
+        RevisionWrite x = Check.holding("%F1\no 40 2\nab\no 7 0\n\nx 3\n7 14\n9 -\n40 4\np 0\ne 21\n");
+        Check.due("read", x.read(), 1);
+        Check.due("object 7", Check.objectOf(x, 7), "");
+        Check.due("object 9", Check.objectOf(x, 9), "none");
+        Check.due("object 40", Check.objectOf(x, 40), "ab");
+        Check.due("objects", x.told(2), 2);
+        Check.due("changed", x.told(3), 0);
+        Check.due("place of 7", x.place(0, 7), 14);
+        Check.due("place of 9", x.place(0, 9), -1);
+    }
+
+    private static void firstAndLastByte() {
+        fault("byte 0", "$F1\nx 0\np 0\ne 4\n", 0);
+        fault("byte 1", "%f1\nx 0\np 0\ne 4\n", 0);
+        fault("byte 2", "%F2\nx 0\np 0\ne 4\n", 0);
+        fault("byte 3", "%F1 \nx 0\np 0\ne 5\n", 0);
+        fault("a longer first line", "%F10\nx 0\np 0\ne 5\n", 0);
+        fault("the first line is looked at first", "%F2\nx 0\np 0\ne 4 ", 0);
+        fault("the last byte", "%F1\nx 0\np 0\ne 4 ", 16);
+        fault("the last byte, a digit more", "%F1\nx 0\np 0\ne 44", 16);
+        fault("the last byte is looked at before the last line", "%F1\nx 0\np 0\ne 4 x", 17);
+    }
+
+    private static void lastLine() {
+        fault("another letter", "%F1\nx 0\np 0\nf 4\n", 12);
+        fault("no number", "%F1\nx 0\np 0\ne x\n", 12);
+        fault("an empty last line", "%F1\nx 0\np 0\ne 4\n\n", 16);
+        fault("an empty last line before a wrong x", "%F1\ny 0\np 0\ne 4\n\n", 16);
+        fault("two blanks", "%F1\nx 0\np 0\ne  4\n", 12);
+        fault("a blank behind", "%F1\nx 0\np 0\ne 4 \n", 12);
+        fault("a blank before", "%F1\nx 0\np 0\n e 4\n", 12);
+        fault("a tab", "%F1\nx 0\np 0\ne\t4\n", 12);
+        fault("X is its own place", "%F1\nx 0\np 0\ne 12\n", 12);
+        fault("X is beyond its own place", "%F1\nx 0\np 0\ne 13\n", 12);
+        fault("X is just before its own place", "%F1\nx 0\np 0\ne 11\n", 11);
+        fault("X beyond the file", "%F1\nx 0\np 0\ne 99999\n", 12);
+        fault("the first line is the last one", "%F1\n" + "a".repeat(20) + "\n", 4);
+    }
+
+    private static void numbers() {
+        fault("00", "%F1\nx 00\np 0\ne 4\n", 4);
+        fault("04", "%F1\nx 0\np 0\ne 04\n", 12);
+        fault("six digits", "%F1\nx 0\np 0\ne 000004\n", 12);
+        fault("six digits that are small enough", "%F1\nx 0\np 0\ne 100000\n", 12);
+        fault("no digits", "%F1\nx 0\np 0\n\ne \n", 13);
+        fault("below the digits", "%F1\nx 0\np 0\ne /\n", 12);
+        fault("above the digits", "%F1\nx 0\np 0\ne :\n", 12);
+        fault("a sign", "%F1\nx 0\np 0\ne +4\n", 12);
+        fault("five digits are a number", "%F1\nx 99999\np 0\ne 4\n", 12);
+        fault("six digits are none", "%F1\nx 100000\np 0\ne 4\n", 4);
+        fault("ten digits that wrap around", "%F1\nx 0\np 0\ne 4294967300\n", 12);
+    }
+
+    private static void xLine() {
+        fault("another letter", "%F1\ny 0\np 0\ne 4\n", 4);
+        fault("no blank", "%F1\nx0\np 0\n\ne 4\n", 4);
+        fault("a blank behind", "%F1\nx 0 \np 0\ne 4\n", 4);
+        fault("told is 0", "%F1\nx 0\np 0\ne 0\n", 0);
+        fault("told is inside a line", "%F1\nx 0\np 0\ne 5\n", 5);
+        fault("told is the line's end", "%F1\nx 0\np 0\ne 3\n", 3);
+        fault("told is another line", "%F1\nx 0\np 0\ne 8\n", 8);
+    }
+
+    private static void rows() {
+        String record = "%F1\no 1 0\n\no 2 0\n\n";
+        fault("two rows", record + "x 2\n1 4\n2 11\np 0\ne 18\n", GOOD);
+        fault("a row too few", record + "x 1\n1 4\n2 11\np 0\ne 18\n", 26);
+        fault("a row too many", record + "x 3\n1 4\n2 11\np 0\ne 18\n", 31);
+        fault("rows beyond the file", record + "x 2\n1 4\n2 11\ne 18\n", 31);
+        fault("the same number", record + "x 2\n1 4\n1 4\np 0\ne 18\n", 26);
+        fault("a less number", record + "x 2\n2 11\n1 4\np 0\ne 18\n", 27);
+        fault("number 0", record + "x 2\n0 4\n2 11\np 0\ne 18\n", 22);
+        fault("number 40", record + "x 2\n1 4\n40 -\np 0\ne 18\n", GOOD);
+        fault("number 41", record + "x 2\n1 4\n41 -\np 0\ne 18\n", 26);
+        fault("number 01", record + "x 1\n01 4\np 0\ne 18\n", 22);
+        fault("no place", record + "x 1\n1 \np 0\ne 18\n", 22);
+        fault("no number", record + "x 1\n 4\np 0\ne 18\n", 22);
+        fault("place 04", record + "x 1\n1 04\np 0\ne 18\n", 22);
+        fault("a blank behind", record + "x 1\n1 4 \np 0\ne 18\n", 22);
+        fault("two blanks", record + "x 1\n1  4\np 0\ne 18\n", 22);
+        fault("a tab", record + "x 1\n1\t4\np 0\ne 18\n", 22);
+        fault("gone and more", record + "x 1\n1 -4\np 0\ne 18\n", 22);
+        fault("gone and a blank", record + "x 1\n1 - \np 0\ne 18\n", 22);
+        fault("place of the x", record + "x 1\n1 18\np 0\ne 18\n", 22);
+        fault("place before the x", record + "x 1\n1 17\np 0\ne 18\n", 17);
+        fault("place behind the x", record + "x 1\n1 19\np 0\ne 18\n", 22);
+        fault("place 0", record + "x 1\n1 0\np 0\ne 18\n", 0);
+        StringBuilder all = new StringBuilder("%F1\nx 40\n");
+        for (int n = 1; n <= 40; n++) {
+            all.append(n).append(" -\n");
+        }
+        fault("forty rows", all + "p 0\ne 4\n", GOOD);
+        String more = all.toString().replace("x 40", "x 41");
+        fault("forty-one rows", more + "40 -\np 0\ne 4\n", more.length());
+    }
+
+    private static void pLine() {
+        fault("another letter", "%F1\nx 0\nq 0\ne 4\n", 8);
+        fault("no number", "%F1\nx 0\np -\ne 4\n", 8);
+        fault("none", "%F1\nx 0\ne 4\n\n\n\n\ne 4\n", 8);
+        fault("Q is the place of the x", "%F1\nx 0\np 4\ne 4\n", 8);
+        fault("Q is behind the x", "%F1\nx 0\np 5\ne 4\n", 8);
+        fault("Q is before the x", "%F1\nx 0\np 3\ne 4\n", 3);
+        fault("a blank behind", "%F1\nx 0\np 0 \ne 4\n", 8);
+        fault("the file ends before it", "%F1\n....\n...\nx 1\ne 9\n", 9);
+    }
+
+    private static void eLine() {
+        fault("another place than told", "%F1\nx 0\np 0\ne 5\ne 4\n", 12);
+        fault("no e", "%F1\nx 0\np 0\nf 4\ne 4\n", 12);
+        fault("not the last line", "%F1\nx 0\np 0\ne 4\ne 4\n", 16);
+        fault("not the last line, others between", "%F1\nx 0\np 0\ne 4\n\nabc\ne 4\n", 16);
+        fault("a blank behind", "%F1\nx 0\np 0\ne 4 \ne 4\n", 12);
+    }
+
+    private static void record(String why, String record, boolean good) {
+        String head = "%F1\n" + record;
+        fault(why, head + "x 1\n7 4\np 0\ne " + head.length() + "\n", good ? GOOD : 4);
+    }
+
+    private static void records() {
+        record("three bytes", "o 7 3\nabc\n", true);
+        record("three bytes and more behind", "o 7 3\nabc\nde", true);
+        record("no bytes", "o 7 0\n\n", true);
+        record("another letter", "O 7 3\nabc\n", false);
+        record("another number", "o 8 3\nabc\n", false);
+        record("number 07", "o 07 3\nabc\n", false);
+        record("no blank", "o 73\nabc\n", false);
+        record("two blanks", "o 7  3\nabc\n", false);
+        record("another blank", "o 7\t3\nabc\n", false);
+        record("a blank behind", "o 7 3 \nabc\n", false);
+        record("length 03", "o 7 03\nabc\n", false);
+        record("no length", "o 7 \nabc\n", false);
+        record("a byte too few", "o 7 3\nab\n", false);
+        record("a byte too many", "o 7 3\nabcd\n", false);
+        record("no 10 behind", "o 7 3\nabc ", false);
+        record("the 10 is the x", "o 7 3\nabc", false);
+        record("longest", "o 7 120\n" + "z".repeat(120) + "\n", true);
+        record("too long", "o 7 121\n" + "z".repeat(121) + "\n", false);
+        record("far too long", "o 7 99999\n" + "z".repeat(99) + "\n", false);
+        record("a length that reaches into the rows", "o 7 4\nabc\n", false);
+        String two = "%F1\no 1 0\n\no 2 0\n\n";
+        fault("the second one is of another number", two + "x 2\n1 4\n2 4\np 0\ne 18\n", 4);
+        fault("the second one is none", two + "x 2\n1 4\n2 12\np 0\ne 18\n", 12);
+        fault("both are none: the first row's", two + "x 2\n1 12\n2 5\np 0\ne 18\n", 12);
+        fault("gone ones have none", two + "x 3\n1 -\n2 12\n3 -\np 0\ne 18\n", 12);
+        // The byte behind three bytes is the line end of the row, behind the x.
+        fault("its 10 is behind the x", "%F1\no 7 5\nabx 1\n7 4\np 0\ne 12\n", 4);
+    }
+
+    private static RevisionWrite threeParts() {
+        RevisionWrite x = new RevisionWrite();
+        Check.bring(x, 1, "a");
+        x.write(0);
+        Check.bring(x, 2, "b");
+        x.append();
+        x.drop(1);
+        Check.bring(x, 3, "c");
+        x.append();
+        return x;
+    }
+
+    // o1:4 x:12 "1 4":16 p:20 e:24, o2:29 x:37 "2 29":41 p:46 e:51, o3:56 x:64 "1 -":68 "3 56":72 p:77 e:82, size 87
+    private static void poked(String why, int place, char byteThere, int fault) {
+        RevisionWrite x = threeParts();
+        x.poke(place, (byte) byteThere);
+        Check.due(why, x.read(), fault == GOOD ? 3 : -1 - fault);
+    }
+
+    private static void partsBefore() {
+        Check.due("three parts", Check.fileOf(threeParts()), "%F1\no 1 1\na\nx 1\n1 4\np 0\ne 12\n"
+            + "o 2 1\nb\nx 1\n2 29\np 12\ne 37\no 3 1\nc\nx 2\n1 -\n3 56\np 37\ne 64\n");
+        poked("a byte of an object", 10, 'A', GOOD);
+        poked("a record of the first part", 4, 'p', 4);
+        poked("a record of the second part", 29, 'p', 29);
+        poked("a record of the third part", 56, 'p', 56);
+        poked("x of the first part", 12, 'y', 12);
+        poked("x of the second part", 37, 'y', 37);
+        poked("x of the third part", 64, 'y', 64);
+        poked("a row of the first part", 16, '0', 16);
+        poked("a row of the second part", 41, '0', 41);
+        poked("p of the first part", 20, 'q', 20);
+        poked("p of the second part", 46, 'q', 46);
+        poked("p of the third part tells another", 79, '2', 27);
+        poked("p of the third part tells its first", 78, 'x', 77);
+        poked("e of the first part", 26, '2', 24);
+        poked("e of the second part", 54, '6', 51);
+        poked("e of the third part", 85, '5', 65);
+        poked("the line end of the second part's e", 55, 'e', 51);
+        RevisionWrite x = threeParts();
+        Check.pokeAll(x, 79, "12");
+        Check.due("a part is left out", x.read(), 2);
+        Check.due("left out: size(0)", x.size(0), 29);
+        Check.due("left out: size(1)", x.size(1), 87);
+        Check.due("left out: object 2", x.length(2), -1);
+        Check.due("left out: object 3", Check.objectOf(x, 3), "c");
+        Check.bring(x, 4, "d");
+        Check.due("written behind it", x.append() > 0, true);
+        Check.due("and read", x.read(), 3);
+        RevisionWrite y = threeParts();
+        Check.pokeAll(y, 72, "3 29");
+        Check.due("a row tells an older record of another object", y.read(), -30);
+        y.poke(31, (byte) '3');
+        Check.due("that record is wrong for its own part", y.read(), -30);
+        y.poke(41, (byte) '3');
+        Check.due("both parts tell one record", y.read(), 3);
+        Check.due("its place", y.place(2, 3), 29);
+        Check.due("no difference but of the one that went", y.differ(1, 2), 1);
+    }
+
+    private static void orderInOnePart() {
+        String two = "%F1\no 1 0\n\no 2 0\n\n";
+        fault("x before rows", two + "x 02\n0 4\n2 12\np 9\ne 18\n", 18);
+        fault("rows before p", two + "x 2\n0 4\n2 12\nq 0\ne 18\n", 22);
+        fault("p before e", two + "x 2\n1 4\n2 12\nq 0\ne 17\ne 18\n", 31);
+        fault("e before records", two + "x 2\n1 4\n2 12\np 0\ne 17\ne 18\n", 35);
+        fault("the last line before records", two + "x 2\n1 4\n2 12\np 0\ne 18\n\ne 18\n", 40);
+        fault("records before the part before", two + "x 2\n1 4\n2 12\np 4\ne 18\n", 12);
+        fault("then the part before", two + "x 2\n1 4\n2 11\np 4\ne 18\n", 4);
+    }
+
+    private static void placesInsideLines() {
+        RevisionWrite x = new RevisionWrite();
+        String inner = "x 1\n9 -\np 0\ne 10\n";
+        Check.bring(x, 1, inner);
+        x.write(0);
+        Check.due("the outer part", x.read(), 1);
+        // "%F1\n" 4, "o 1 17\n" 7: the inner part is at 11.
+        int p = Check.fileOf(x).lastIndexOf("p 0");
+        x.poke(p + 2, (byte) '4');
+        Check.due("a part that is none", x.read(), -5);
+        x.poke(p + 2, (byte) '0');
+        Check.due("mended", x.read(), 1);
+        RevisionWrite y = new RevisionWrite();
+        Check.bring(y, 1, "x 1\n9 -\np 0\ne 11\n");
+        Check.bring(y, 2, "");
+        y.write(0);
+        // "e X" of the file's end has two digits; the inner e is not the last line.
+        int e = Check.fileOf(y).lastIndexOf("e ");
+        Check.pokeAll(y, e + 2, "11");
+        Check.due("an inner part as the last one", y.read(), -1 - 28);
+    }
+
+    private static void tooManyParts() {
+        RevisionWrite x = new RevisionWrite();
+        x.write(0);
+        for (int i = 1; i < 59; i++) {
+            x.object(1, 0);
+            x.append();
+        }
+        // The first part's "p 0" is at 8; 3 is less than its x, and there is no part.
+        x.poke(10, (byte) '3');
+        Check.due("a 60th part that is none", x.read(), -4);
+        x.poke(10, (byte) '0');
+        Check.due("59 parts", x.read(), 59);
+        x.object(1, 0);
+        x.append();
+        Check.due("60 parts", x.read(), 60);
+        x.poke(10, (byte) '3');
+        Check.due("a 61st part", x.read(), -9);
+        Check.due("a 61st part: revisions stay", x.told(1), 60);
+    }
+}
