@@ -480,7 +480,7 @@ public final class RevisionWrite {
             }
         }
 
-        /** Objects come by numbers, and one goes only before those that must be behind it: of equals the less stays before. */
+        /** Objects come here by numbers; of equals the one that came before stays before. */
         private void insert(int n, int how) {
             if (chosen >= OBJECTS) {
                 return;
