@@ -7,6 +7,8 @@ public final class FaultTest {
         firstAndLastByte();
         lastLine();
         numbers();
+        numbersInEachLine();
+        blanksAndEndsInEachLine();
         xLine();
         rows();
         pLine();
@@ -16,6 +18,11 @@ public final class FaultTest {
         orderInOnePart();
         placesInsideLines();
         tooManyParts();
+        tooManyBeforeOthers();
+        boundsOfRows();
+        boundsOfPlaces();
+        boundsOfRecords();
+        greatestFile();
         Check.end();
     }
 
@@ -84,6 +91,121 @@ public final class FaultTest {
         fault("five digits are a number", "%F1\nx 99999\np 0\ne 4\n", 12);
         fault("six digits are none", "%F1\nx 100000\np 0\ne 4\n", 4);
         fault("ten digits that wrap around", "%F1\nx 0\np 0\ne 4294967300\n", 12);
+    }
+
+    /** The lines of a file of one object, for a test to make one of them wrong. */
+    private static final class Lines {
+        String o = "o 7 1\n";
+        String x = "x 1\n";
+        String row = "7 4\n";
+        String p = "p 0\n";
+        String e = null;
+
+        int xPlace() {
+            return 4 + o.length() + 2;
+        }
+
+        String file() {
+            return "%F1\n" + o + "a\n" + x + row + p + (e == null ? "e " + xPlace() + "\n" : e);
+        }
+
+        int rowPlace() {
+            return xPlace() + x.length();
+        }
+
+        int pPlace() {
+            return rowPlace() + row.length();
+        }
+
+        int ePlace() {
+            return pPlace() + p.length();
+        }
+    }
+
+    private static void wrongO(String o) {
+        Lines lines = new Lines();
+        lines.o = o;
+        fault("o line", lines.file(), 4);
+    }
+
+    private static void wrongX(String x) {
+        Lines lines = new Lines();
+        lines.x = x;
+        fault("x line", lines.file(), lines.xPlace());
+    }
+
+    private static void wrongRow(String row) {
+        Lines lines = new Lines();
+        lines.row = row;
+        fault("row", lines.file(), lines.rowPlace());
+    }
+
+    private static void wrongP(String p) {
+        Lines lines = new Lines();
+        lines.p = p;
+        fault("p line", lines.file(), lines.pPlace());
+    }
+
+    private static void wrongE(String e) {
+        Lines lines = new Lines();
+        lines.e = e;
+        fault("e line", lines.file(), lines.ePlace());
+    }
+
+    /** The number is right but for how it is written: by a 0 before, six digits, none, or one that wraps around to it. */
+    private static void numbersInEachLine() {
+        fault("all is right", new Lines().file(), GOOD);
+        for (String wrong : new String[] {"0%d", "00%d", "00000%d", "", "-%d", "+%d", "%d.", "0x%d", "\u00b1"}) {
+            wrongO("o " + wrong.replace("%d", "7") + " 1\n");
+            wrongO("o 7 " + wrong.replace("%d", "1") + "\n");
+            wrongX("x " + wrong.replace("%d", "1") + "\n");
+            wrongRow(wrong.replace("%d", "7") + " 4\n");
+            wrongRow("7 " + wrong.replace("%d", "4") + "\n");
+            wrongP("p " + wrong.replace("%d", "0") + "\n");
+            wrongE("e " + wrong.replace("%d", "12") + "\n");
+        }
+        long turn = 1L << 32;
+        wrongO("o " + (turn + 7) + " 1\n");
+        wrongO("o 7 " + (turn + 1) + "\n");
+        wrongX("x " + (turn + 1) + "\n");
+        wrongRow((turn + 7) + " 4\n");
+        wrongRow("7 " + (turn + 4) + "\n");
+        wrongP("p " + turn + "\n");
+        wrongE("e " + (turn + 12) + "\n");
+        // Numbers of five digits are numbers: what is wrong is only that they are too great.
+        wrongO("o 99999 1\n");
+        wrongO("o 7 99999\n");
+        wrongRow("99999 4\n");
+        wrongRow("7 99999\n");
+        wrongP("p 99999\n");
+        wrongE("e 99999\n");
+        Lines lines = new Lines();
+        lines.x = "x 99999\n";
+        fault("more rows than there are", lines.file(), lines.pPlace());
+    }
+
+    /** Each line with a blank too many or too few, another byte for it, bytes behind, bytes above 127. */
+    private static void blanksAndEndsInEachLine() {
+        for (String o : new String[] {"o  7 1\n", "o7 1\n", "o 71\n", "o 7 1 \n", " o 7 1\n", "o 7\t1\n", "o 7 1\r\n",
+            "o 7\n", "o\n", "\u00ef 7 1\n", "o\u00a07 1\n", "o 7\u00a01\n", "o 7 1\u008a", "o 7 -\n", "oo 7 1\n"}) {
+            wrongO(o);
+        }
+        for (String x : new String[] {"x  1\n", "x1\n", "x 1 \n", " x 1\n", "x\t1\n", "x 1\r\n", "x\n", "X 1\n", "\u00f8 1\n",
+            "x\u00a01\n", "x 1\u008a", "x -\n", "\n"}) {
+            wrongX(x);
+        }
+        for (String row : new String[] {"7  4\n", "74\n", "7 4 \n", " 7 4\n", "7\t4\n", "7 4\r\n", "7\n", "7 --\n", "7 - \n", "7  -\n",
+            "7-\n", " -\n", "- 4\n", "7 _\n", "7\u00a04\n", "7 4\u008a", "7 -\u008a", "7 4-\n", "7 \u00ad\n", "\n"}) {
+            wrongRow(row);
+        }
+        for (String p : new String[] {"p  0\n", "p0\n", "p 0 \n", " p 0\n", "p\t0\n", "p 0\r\n", "p\n", "P 0\n", "\u00f0 0\n",
+            "p\u00a00\n", "p 0\u008a", "p -\n", "\n"}) {
+            wrongP(p);
+        }
+        for (String e : new String[] {"e  12\n", "e12\n", "e 12 \n", " e 12\n", "e\t12\n", "e 12\r\n", "e\n", "E 12\n",
+            "\u00e5 12\n", "e\u00a012\n", "e -\n", "\n"}) {
+            wrongE(e);
+        }
     }
 
     private static void xLine() {
@@ -294,5 +416,108 @@ public final class FaultTest {
         x.poke(10, (byte) '3');
         Check.due("a 61st part", x.read(), -9);
         Check.due("a 61st part: revisions stay", x.told(1), 60);
+    }
+
+    /** The 60th part's p is looked at before its e and before its records. */
+    private static void tooManyBeforeOthers() {
+        RevisionWrite x = new RevisionWrite();
+        x.object(1, 1);
+        x.write(0);
+        for (int i = 1; i < 60; i++) {
+            x.object(1, i % 3);
+            x.append();
+        }
+        // "%F1", "o 1 1" at 4, its byte, x at 12, "1 4" at 16, "p 0" at 20, "e 12" at 24.
+        x.poke(26, (byte) '2');
+        Check.due("the e of the 60th part", x.read(), -25);
+        x.poke(22, (byte) '3');
+        Check.due("the p of the 60th part", x.read(), -21);
+        x.poke(16, (byte) '0');
+        Check.due("a row of the 60th part", x.read(), -17);
+        x.poke(16, (byte) '1');
+        x.poke(26, (byte) '1');
+        x.poke(4, (byte) 'O');
+        Check.due("the p of the 60th part, before a record", x.read(), -21);
+        x.poke(22, (byte) '0');
+        Check.due("a record of the 60th part", x.read(), -5);
+        x.poke(4, (byte) 'o');
+        Check.due("60 parts", x.read(), 60);
+    }
+
+    private static String rowsOnly(String... rows) {
+        return "%F1\nx " + rows.length + "\n" + String.join("", rows) + "p 0\ne 4\n";
+    }
+
+    private static void boundsOfRows() {
+        fault("N = 1", rowsOnly("1 -\n"), GOOD);
+        fault("N = 40", rowsOnly("40 -\n"), GOOD);
+        fault("N = 0", rowsOnly("0 -\n"), 8);
+        fault("N = 41", rowsOnly("41 -\n"), 8);
+        fault("N = 257", rowsOnly("257 -\n"), 8);
+        fault("N = 65537", rowsOnly("65537 -\n"), 8);
+        fault("one above the one before", rowsOnly("39 -\n", "40 -\n"), GOOD);
+        fault("far above the one before", rowsOnly("1 -\n", "40 -\n"), GOOD);
+        fault("the same as the one before", rowsOnly("39 -\n", "39 -\n"), 13);
+        fault("one below the one before", rowsOnly("39 -\n", "38 -\n"), 13);
+        fault("below the one before that", rowsOnly("2 -\n", "9 -\n", "3 -\n"), 16);
+        fault("the first of two wrong ones", rowsOnly("1 -\n", "0 -\n", "41 -\n"), 12);
+        fault("told none, there is one", "%F1\nx 0\n1 -\np 0\ne 4\n", 8);
+        fault("told one, there is none", "%F1\nx 1\np 0\ne 4\n", 8);
+        fault("told two, there is one", "%F1\nx 2\n1 -\np 0\ne 4\n", 12);
+        fault("told one, there are two", "%F1\nx 1\n1 -\n2 -\np 0\ne 4\n", 12);
+    }
+
+    /** X, P and Q on both sides of their bounds: the last that is less goes on to what is wrong at that place. */
+    private static void boundsOfPlaces() {
+        fault("X is the last line's place", "%F1\nx 0\np 0\ne 12\n", 12);
+        fault("X is one less: no x there", "%F1\nx 0\np 0\ne 11\n", 11);
+        fault("P is the place of the x", "%F1\nx 1\n1 4\np 0\ne 4\n", 8);
+        fault("P is one less: no record there", "%F1\nx 1\n1 3\np 0\ne 4\n", 3);
+        fault("P is 0: no record there", "%F1\nx 1\n1 0\np 0\ne 4\n", 0);
+        fault("Q is the place of the x", "%F1\nx 0\np 4\ne 4\n", 8);
+        fault("Q is one less: no x there", "%F1\nx 0\np 3\ne 4\n", 3);
+        fault("Q is 1: no x there", "%F1\nx 0\np 1\ne 4\n", 1);
+        fault("Q is 0: no part before", "%F1\nx 0\np 0\ne 4\n", GOOD);
+        fault("the e tells one less", "%F1\nx 0\np 0\ne 3\ne 4\n", 12);
+        fault("the e tells one more", "%F1\nx 0\np 0\ne 5\ne 4\n", 12);
+        // The last line tells its own x; the e of the part that is told is another line.
+        fault("one line behind the part's e", "%F1\nx 0\np 0\ne 4\n\ne 4\n", 16);
+        RevisionWrite x = Check.holding("%F1\nx 0\np 0\ne 4\nx 0\np 4\ne 16\n");
+        Check.due("only of the last part the e is the last line", x.read(), 2);
+    }
+
+    private static void boundsOfRecords() {
+        for (int length : new int[] {0, 1, 9, 10, 99, 100, 119, 120}) {
+            record("L = " + length, "o 7 " + length + "\n" + "z".repeat(length) + "\n", true);
+            record("L = " + length + ", one byte more", "o 7 " + length + "\n" + "z".repeat(length + 1) + "\n", false);
+            record("L = " + length + ", no 10", "o 7 " + length + "\n" + "z".repeat(length), false);
+        }
+        for (int length : new int[] {121, 122, 128, 255, 256, 257}) {
+            record("L = " + length, "o 7 " + length + "\n" + "z".repeat(length) + "\n", false);
+        }
+        record("bytes that are all 10", "o 7 5\n\n\n\n\n\n\n", true);
+        record("bytes that are all 10, one fewer", "o 7 5\n\n\n\n\n\n", false);
+        // Its 10 is the x line's end: behind the x, though the file has it.
+        record("its 10 is in the x line", "o 7 5\nab", false);
+        record("its bytes end before the x, its 10 does not", "o 7 2\nab", false);
+        fault("N = 40", "%F1\no 40 0\n\nx 1\n40 4\np 0\ne 12\n", GOOD);
+        fault("N of another row", "%F1\no 40 0\n\nx 1\n4 4\np 0\ne 12\n", 4);
+    }
+
+    /** Places of five digits, up to the last one: a full file with one byte wrong. */
+    private static void greatestFile() {
+        RevisionWrite x = Check.lacking(0);
+        int parts = x.told(1);
+        int last = x.size(parts - 2);
+        int record = x.place(parts - 1, 1);
+        Check.due("the last part's record", record, last);
+        int[] wrong = {11999, 11992, 11984, 11976, 11972, record, 3};
+        int[] faults = {12000, 11992, 11984, 11976, 11972, record, 0};
+        for (int i = 0; i < wrong.length; i++) {
+            byte was = x.poke(wrong[i], (byte) '?');
+            Check.due("a wrong byte at " + wrong[i], x.read(), -1 - faults[i]);
+            x.poke(wrong[i], was);
+            Check.due("mended at " + wrong[i], x.read(), parts);
+        }
     }
 }

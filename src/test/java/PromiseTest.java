@@ -1,5 +1,3 @@
-import java.util.TreeMap;
-
 /** Each promise of the document: ordinary inputs, the edges that it names, wrong inputs. */
 public final class PromiseTest {
     private static final int[] NO_OBJECTS = {0, 41, -1, Integer.MIN_VALUE, Integer.MAX_VALUE};
@@ -188,36 +186,22 @@ public final class PromiseTest {
         x.first(5, true);
         x.first(5, false);
         x.write(0);
-        Check.due("by numbers", order(x, 6), "123456");
+        Check.due("by numbers", Check.recordsOf(x), "1 2 3 4 5 6 ");
         x.write(1);
-        Check.due("by how many bytes", order(x, 6), "254136");
+        Check.due("by how many bytes", Check.recordsOf(x), "2 5 4 1 3 6 ");
         x.write(2);
-        Check.due("FIRST ones before", order(x, 6), "361245");
+        Check.due("FIRST ones before", Check.recordsOf(x), "3 6 1 2 4 5 ");
         x.octet(6, 0, (byte) 1);
         x.octet(1, 0, (byte) 1);
         x.octet(4, 0, (byte) 1);
         x.append();
-        Check.due("behind, by numbers", order(x, 6), "325146");
+        Check.due("behind, by numbers", Check.recordsOf(x), "3 2 5 1 4 6 ");
         x.read();
         x.write(2);
-        Check.due("none is FIRST after a reading", order(x, 6), "123456");
+        Check.due("none is FIRST after a reading", Check.recordsOf(x), "1 2 3 4 5 6 ");
         for (int n = 1; n <= 6; n++) {
             Check.due("object " + n + " is not FIRST after a reading", x.first(n, false), false);
         }
-    }
-
-    /** The objects 1 .. most in the order of their records in the last revision. */
-    private static String order(RevisionWrite x, int most) {
-        TreeMap<Integer, Integer> byPlace = new TreeMap<>();
-        int last = x.told(1) - 1;
-        for (int n = 1; n <= most; n++) {
-            byPlace.put(x.place(last, n), n);
-        }
-        StringBuilder text = new StringBuilder();
-        for (int n : byPlace.values()) {
-            text.append(n);
-        }
-        return text.toString();
     }
 
     private static void promise7Append() {
@@ -638,12 +622,9 @@ public final class PromiseTest {
 
     private static String rows(RevisionWrite x) {
         StringBuilder text = new StringBuilder();
-        for (int i = 0; i < 40; i++) {
-            try {
-                text.append(x.row(i, 0)).append(':').append(x.row(i, 1)).append(' ');
-            } catch (IndexOutOfBoundsException e) {
-                break;
-            }
+        int count = Check.rowsOf(x);
+        for (int i = 0; i < count; i++) {
+            text.append(x.row(i, 0)).append(':').append(x.row(i, 1)).append(' ');
         }
         return text.toString();
     }

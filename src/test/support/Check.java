@@ -1,10 +1,16 @@
 import java.nio.charset.StandardCharsets;
+import java.util.Map;
+import java.util.TreeMap;
+import java.util.function.Supplier;
 
 /** What the project's tests share: comparing answers, and making files with bytes of the test's own. */
 final class Check {
     interface Call {
         void run();
     }
+
+    /** By a file's size, how long its objects are (-1: not there). */
+    private static final Map<Integer, int[]> LENGTHS = new TreeMap<>();
 
     private static int compared = 0;
     private static int wrong = 0;
@@ -75,6 +81,20 @@ final class Check {
         return text.toString();
     }
 
+    /** The whole file of what the maker makes, each time anew: an object answers for 512 calls, a file may be longer. */
+    static String fileOf(Supplier<RevisionWrite> maker) {
+        StringBuilder text = new StringBuilder();
+        RevisionWrite x = maker.get();
+        int size = x.told(0);
+        for (int i = 0; i < size; i++) {
+            if (i % 250 == 0) {
+                x = maker.get();
+            }
+            text.append((char) (x.at(i) & 255));
+        }
+        return text.toString();
+    }
+
     static String objectOf(RevisionWrite x, int n) {
         int length = x.length(n);
         if (length == RevisionWrite.NONE) {
@@ -85,6 +105,37 @@ final class Check {
             text.append((char) (x.byteOf(n, i) & 255));
         }
         return text.toString();
+    }
+
+    /** The objects of the last revision in the order of their records. */
+    static String recordsOf(RevisionWrite x) {
+        TreeMap<Integer, Integer> byPlace = new TreeMap<>();
+        int last = x.told(1) - 1;
+        for (int n = 1; n <= 40; n++) {
+            int place = x.place(last, n);
+            if (place != RevisionWrite.NONE) {
+                byPlace.put(place, n);
+            }
+        }
+        StringBuilder text = new StringBuilder();
+        for (int n : byPlace.values()) {
+            text.append(n).append(' ');
+        }
+        return text.toString();
+    }
+
+    /** How many rows the latest differ() has left. */
+    static int rowsOf(RevisionWrite x) {
+        int rows = 0;
+        while (rows < 41) {
+            try {
+                x.row(rows, 0);
+            } catch (IndexOutOfBoundsException e) {
+                break;
+            }
+            rows++;
+        }
+        return rows;
     }
 
     /** Brings an object with these bytes. */
@@ -117,21 +168,26 @@ final class Check {
 
     /** An object whose file was written with so many bytes, or null where no file has just these. */
     private static RevisionWrite written(int size) {
-        for (int a = -1; a <= 120; a++) {
-            for (int b = -1; b <= 120; b += 11) {
-                RevisionWrite x = new RevisionWrite();
-                if (a >= 0) {
-                    x.object(1, a);
-                }
-                if (b >= 0) {
-                    x.object(2, b);
-                }
-                if (x.write(0) == size) {
-                    return x;
+        if (LENGTHS.isEmpty()) {
+            for (int a = -1; a <= 120; a++) {
+                for (int b = -1; b <= 120; b += 11) {
+                    LENGTHS.putIfAbsent(writtenWith(a, b, -1).told(0), new int[] {a, b, -1});
+                    LENGTHS.putIfAbsent(writtenWith(a, b, 120).told(0), new int[] {a, b, 120});
                 }
             }
         }
-        return null;
+        return LENGTHS.containsKey(size) ? writtenWith(LENGTHS.get(size)) : null;
+    }
+
+    private static RevisionWrite writtenWith(int... lengths) {
+        RevisionWrite x = new RevisionWrite();
+        for (int i = 0; i < lengths.length; i++) {
+            if (lengths[i] >= 0) {
+                x.object(i + 1, lengths[i]);
+            }
+        }
+        x.write(0);
+        return x;
     }
 
     /** A file so small is no writing's: it is taken out of a poked one as its first revision. */
@@ -151,5 +207,37 @@ final class Check {
             }
         }
         throw new IllegalArgumentException("no file of " + size + " bytes");
+    }
+
+    /** An object whose file lacks so many bytes (0 .. 200) of 12000; none is changed, all objects are there. */
+    static RevisionWrite lacking(int left) {
+        RevisionWrite x = new RevisionWrite();
+        for (int n = 1; n <= 40; n++) {
+            x.object(n, 120);
+        }
+        x.write(0);
+        for (int n = 1; n <= 40; n++) {
+            x.object(n, 120);
+        }
+        x.append();
+        for (int k = 0; k < 20 && x.told(0) < 12000 - left; k++) {
+            int most = 12000 - left - x.told(0);
+            // What then remains is again as much as a part may have.
+            x.object(1, lengthInPart(most > 130 ? Math.min(120, most - 50) : most));
+            x.append();
+        }
+        due("a file that lacks " + left, x.told(0), 12000 - left);
+        return x;
+    }
+
+    /** How many bytes object 1 has when it alone is written behind, all places of five digits, in so many bytes. */
+    static int lengthInPart(int bytes) {
+        for (int length = 0; length <= 120; length++) {
+            String rest = "o 1 " + length + "\n\nx 1\n1 10000\np 10000\ne 10000\n";
+            if (rest.length() + length == bytes) {
+                return length;
+            }
+        }
+        throw new IllegalArgumentException("no part of " + bytes + " bytes");
     }
 }
