@@ -15,6 +15,7 @@ public final class BoundaryTest {
         rowsOf0To120Bytes();
         fileOfAtMost12000Bytes();
         placesFrom0();
+        numbersOf1To5Digits();
         rowsOfNoneAndOfAll();
         partBeforeOr0();
         latestRowCounts();
@@ -217,6 +218,75 @@ public final class BoundaryTest {
         Check.noPlace("at the size", () -> x.at(x.told(0)));
         Check.noPlace("poke the size", () -> x.poke(x.told(0), (byte) 0));
         Check.due("the last one", x.at(x.told(0) - 1), 10);
+    }
+
+    // A NUMBER is 1 to 5 digits, none of them a 0 before others
+    private static void numbersOf1To5Digits() {
+        for (int place : new int[] {4, 11, 99, 100, 999, 1000, 9999, 10000}) {
+            RevisionWrite x = reaching(place, false);
+            int parts = x.told(1);
+            Check.due("X is " + place, ending(x).endsWith("\ne " + place + "\n"), true);
+            Check.due("X is " + place + ": read", x.read(), parts);
+            x.object(40, 1);
+            x.append();
+            Check.due("Q is " + place, ending(x).contains("\np " + place + "\ne "), true);
+            Check.due("Q is " + place + ": read", x.read(), parts + 1);
+            RevisionWrite y = reaching(place, true);
+            Check.due("P is " + place, ending(y).contains("\n40 " + place + "\np "), true);
+            Check.due("P is " + place + ": its place", y.place(parts - 1, 40), place);
+            Check.due("P is " + place + ": read", y.read(), parts);
+            Check.due("P is " + place + ": its place, read", y.place(parts - 1, 40), place);
+        }
+    }
+
+    /** An object whose last part's records end at a place; if there is to be one more, it is object 40's, there. */
+    private static RevisionWrite reaching(int place, boolean more) {
+        RevisionWrite x = new RevisionWrite();
+        boolean behind = place > 5000;
+        for (int n = 1; behind && n <= 38; n++) {
+            x.object(n, 120);
+        }
+        int left = place - (behind ? x.write(0) : 4);
+        int next = 1;
+        while (left > 250) {
+            x.object(next, 120);
+            left -= recordSize(next, 120);
+            next++;
+        }
+        fill(x, next, left);
+        if (more) {
+            x.object(40, 0);
+        }
+        Check.due("a part", behind ? x.append() > 0 : x.write(0) > 0, true);
+        return x;
+    }
+
+    /** Brings object n, or also the next one, so that their records have so many bytes. */
+    private static void fill(RevisionWrite x, int n, int bytes) {
+        for (int one = 0; bytes > 0 && one <= 120; one++) {
+            for (int other = -1; other <= 120; other++) {
+                if (recordSize(n, one) + recordSize(n + 1, other) == bytes) {
+                    x.object(n, one);
+                    if (other >= 0) {
+                        x.object(n + 1, other);
+                    }
+                    return;
+                }
+            }
+        }
+    }
+
+    private static int recordSize(int n, int length) {
+        return length < 0 ? 0 : ("o " + n + " " + length + "\n\n").length() + length;
+    }
+
+    private static String ending(RevisionWrite x) {
+        StringBuilder text = new StringBuilder();
+        int size = x.told(0);
+        for (int i = Math.max(0, size - 40); i < size; i++) {
+            text.append((char) (x.at(i) & 255));
+        }
+        return text.toString();
     }
 
     // ROWS: a line "x C": how many; C lines .. N from less to greater

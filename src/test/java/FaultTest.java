@@ -280,6 +280,9 @@ public final class FaultTest {
         record("three bytes and more behind", "o 7 3\nabc\nde", true);
         record("no bytes", "o 7 0\n\n", true);
         record("another letter", "O 7 3\nabc\n", false);
+        record("no o", "3\nabc\n", false);
+        record("only an o", "o3\nabc\n", false);
+        record("only a length", "o 3\nabc\n", false);
         record("another number", "o 8 3\nabc\n", false);
         record("number 07", "o 07 3\nabc\n", false);
         record("no blank", "o 73\nabc\n", false);
@@ -475,6 +478,8 @@ public final class FaultTest {
         fault("P is one less: no record there", "%F1\nx 1\n1 3\np 0\ne 4\n", 3);
         fault("P is 0: no record there", "%F1\nx 1\n1 0\np 0\ne 4\n", 0);
         fault("Q is the place of the x", "%F1\nx 0\np 4\ne 4\n", 8);
+        fault("Q is the place of the x, before a wrong e", "%F1\nx 0\np 4\ne 5\ne 4\n", 8);
+        fault("Q is the place of the x, before a wrong record", "%F1\nx 1\n1 0\np 4\ne 4\n", 12);
         fault("Q is one less: no x there", "%F1\nx 0\np 3\ne 4\n", 3);
         fault("Q is 1: no x there", "%F1\nx 0\np 1\ne 4\n", 1);
         fault("Q is 0: no part before", "%F1\nx 0\np 0\ne 4\n", GOOD);
